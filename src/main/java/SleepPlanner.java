@@ -820,16 +820,20 @@ public final class SleepPlanner {
             return leastTo[steps];
         }
 
-        /** How far from the start a wakeup may be, at the least, if the next one comes at a tick and no timer is missed. */
+        /** How far behind the start a wakeup must be, at the least, if the next one comes at a tick. */
         private int earliestBefore(Jobs timers, int now, int start, int tick) {
             int due = timers.greatestDue(tick);
+            // A timer that is due behind the wakeup, and can't wait for the next one, would be missed.
             return due == NONE ? 0 : Math.max(due, now) - start;
         }
 
         private long leastSumTo(int to, int earliest) {
             long least = UNREACHED;
             for (int from = Math.max(earliest, 0); from < to; from++) {
-                least = Math.min(least, leastTo[from] + stepCost[to - from]);
+                long sum = leastTo[from] + stepCost[to - from];
+                if (sum < least) {
+                    least = sum;
+                }
             }
             return least;
         }

@@ -242,8 +242,14 @@ public final class PromisesTest {
         for (int clock = 0; clock < 5; clock++) {
             Check.same("runs(" + clock + ") with 3 used", x.runs(clock) ? 1 : 0, due[clock]);
         }
-        x.use(1);
+        x.use(4);
         x.release(3);
+        due = new int[] {1, 1, 0, 0, 1};
+        for (int clock = 0; clock < 5; clock++) {
+            Check.same("runs(" + clock + ") with 4 used", x.runs(clock) ? 1 : 0, due[clock]);
+        }
+        x.use(1);
+        x.release(4);
         due = new int[] {1, 1, 0, 0, 0};
         for (int clock = 0; clock < 5; clock++) {
             Check.same("runs(" + clock + ") with 1 used", x.runs(clock) ? 1 : 0, due[clock]);
@@ -315,6 +321,10 @@ public final class PromisesTest {
         Check.same("at 5000 with a latency", x.breakEven(1), 5000);
         x.setState(1, 40, 120, 0);
         Check.same("a cost that divides", x.breakEven(1), 2);
+        x.setState(1, 40, 121, 0);
+        Check.same("a cost that divides with 1 left", x.breakEven(1), 3);
+        x.setState(1, 99, 7, 2);
+        Check.same("a gain of 1", x.breakEven(1), 9);
         x.play(1);
         x.breakEven(1);
         Check.same("state() after breakEven()", x.state(), 3);
@@ -849,6 +859,8 @@ public final class PromisesTest {
         x.setRule(0);
         x.vote(0, 3);
         Check.same("plannedCost(21) by rule 1, also if the rule is 0", x.plannedCost(21), 1512);
+        // 12 ticks to 15, 5 to 20, 20 to 40, and one to the end.
+        Check.same("plannedCost(41) from 3", timersAtThree().plannedCost(41), 540 + 470 + 1412 + 100);
     }
 
     private static void promise32LeastCost() {
@@ -874,7 +886,7 @@ public final class PromisesTest {
         Check.same("leastCost(100)", y.leastCost(100), 200);
         y.vote(0, 1);
         Check.same("leastCost(100) with a depth of 1", y.leastCost(100), 10000);
-        SleepPlanner z = timersAtThree();
-        Check.isTrue("leastCost is no more than plannedCost", z.leastCost(100) <= z.plannedCost(100));
+        // Served at 3, 20 and 40: 17 ticks and 20 ticks in the state 2, and one in the state 0.
+        Check.same("leastCost(41) from 3", timersAtThree().leastCost(41), 590 + 620 + 100);
     }
 }
