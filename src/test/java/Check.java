@@ -59,6 +59,24 @@ final class Check {
         sameOutcome(what, outcome(call), "java.lang.IllegalStateException");
     }
 
+    /** A call of a planner that it is given. */
+    interface Step {
+        long on(SleepPlanner x);
+    }
+
+    /** In each situation the call throws, and what is told behind it is what is told without it. */
+    static void refuses(String what, Class<?> thrown, Step step) {
+        for (Situation situation : Situation.values()) {
+            refusesIn(situation, what, thrown, step);
+        }
+    }
+
+    static void refusesIn(Situation situation, String what, Class<?> thrown, Step step) {
+        SleepPlanner x = situation.make();
+        sameOutcome(what + " of " + situation, outcome(() -> step.on(x)), thrown.getName());
+        sameOutcome("what is behind " + what + " of " + situation, Probe.tell(x), Probe.tell(situation.make()));
+    }
+
     static int failures() {
         return failed;
     }
