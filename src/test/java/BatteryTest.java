@@ -258,24 +258,38 @@ public final class BatteryTest {
         wells("with a harvest of 17 above the half", x, 31, 35);
     }
 
-    /** Hours of spending and of harvesting by turns; the flow is told once more by taking it one by one. */
+    /** Spending and harvesting by turns of 40 ticks; the flow is told once more without a division below 0. */
     private static void wellsStayWithinTheirBounds() {
         Check.part("no more flows than there is, or than the other well can hold");
         SleepPlanner x = awake(0);
         int available = 50000;
         int bound = 100000;
-        for (int tick = 0; tick < 240; tick++) {
-            int power = tick / 60 % 2 == 0 ? 1000 : 0;
-            x.setAwake(power);
+        int ticksOfFillingBound = 0;
+        for (int tick = 0; tick < 160; tick++) {
+            boolean isSpending = tick / 40 % 2 == 0;
+            if (tick % 40 == 0) {
+                turn(x, isSpending ? 1000 : 0, isSpending ? 0 : 1000);
+            }
             x.play(1);
-            available = Math.max(0, available - power);
-            int least = Math.min(available, bound / 2);
-            int most = Math.max(available, bound / 2);
-            int flow = available <= bound / 2 ? (most - least) / 16 : -((most - least + 15) / 16);
+            available = isSpending ? Math.max(0, available - 1000) : Math.min(50000, available + 1000);
+            int flow = flow(available, bound / 2);
             available += flow;
             bound -= flow;
+            ticksOfFillingBound += flow < 0 ? 1 : 0;
             wells("at " + tick, x, available, bound);
-            Check.isTrue("within", available >= 0 && available <= 50000 && bound >= 0 && bound <= 100000);
+            Check.isTrue("within at " + tick, available >= 0 && available <= 50000 && bound >= 0 && bound <= 100000);
         }
+        Check.isTrue("it flows to either well", ticksOfFillingBound > 10 && ticksOfFillingBound < 150);
+    }
+
+    private static void turn(SleepPlanner x, int power, int harvest) {
+        x.setAwake(power);
+        for (int hour = 0; hour < 3; hour++) {
+            x.setHarvest(hour, harvest);
+        }
+    }
+
+    private static int flow(int available, int half) {
+        return available <= half ? (half - available) / 16 : -((available - half + 15) / 16);
     }
 }

@@ -276,13 +276,7 @@ public final class PlansTest {
     private static void noEventsAndNoWorks() {
         Check.part("these timers alone, no events");
         SleepPlanner x = with(10, 10, 30, 0);
-        SleepPlanner y = new SleepPlanner();
-        y.schedule(10, 10, 50);
-        y.schedule(30, 0, 50);
-        for (int i = 0; i < 12; i++) {
-            y.addEvent(i * 5, 50);
-        }
-        y.setHarvest(0, 1000);
+        SleepPlanner y = withEvents();
         for (int until : new int[] {0, 20, 21, 30, 31, 400}) {
             wakeups("with events", y, until, x.plannedWakeups(until));
             costs("with events", y, until, (int) x.plannedCost(until), (int) x.leastCost(until));

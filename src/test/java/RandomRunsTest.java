@@ -1,14 +1,21 @@
 import java.util.Random;
 
-/** Runs of calls, drawn with fixed seeds; each answer is held against the reference, and all is looked at after each call. */
+/**
+ * Runs of calls, drawn with fixed seeds; each answer is held against the reference. Behind each step some of what can
+ * be seen is looked at, and at the end all of it; a run takes no more calls than an object is used for.
+ */
 public final class RandomRunsTest {
-    private static final int CALLS = 400;
+    private static final int MOST_CALLS = 512;
+    /** The calls of the dearest step with its looks, and of the looks at the end. */
+    private static final int LAST_CALLS = 24;
+    private static final int LOOKS = 17;
 
     private final Random draw;
     private final long seed;
     private final int profile;
     private final SleepPlanner planner = new SleepPlanner();
     private final Reference reference = new Reference();
+    private int calls;
 
     private RandomRunsTest(long seed) {
         this.seed = seed;
@@ -17,18 +24,27 @@ public final class RandomRunsTest {
     }
 
     public static void main(String[] args) {
-        int runs = args.length > 0 ? Integer.parseInt(args[0]) : 400;
+        int runs = args.length > 0 ? Integer.parseInt(args[0]) : 2000;
         for (int seed = 0; seed < runs && Check.failures() < 20; seed++) {
-            RandomRunsTest run = new RandomRunsTest(seed);
-            for (int call = 0; call < CALLS && Check.failures() < 20; call++) {
-                run.oneCall(call);
-            }
+            new RandomRunsTest(seed).play512();
         }
         Check.end("RandomRunsTest");
     }
 
-    private void oneCall(int call) {
-        Check.part("seed " + seed + ", call " + call);
+    private void play512() {
+        while (calls < MOST_CALLS - LAST_CALLS && Check.failures() < 20) {
+            Check.part("seed " + seed + ", call " + calls);
+            oneStep();
+            look(draw.nextInt(LOOKS));
+            look(draw.nextInt(LOOKS));
+        }
+        Check.part("seed " + seed + ", at the end");
+        for (int what = 0; calls < MOST_CALLS; what++) {
+            look(what % LOOKS);
+        }
+    }
+
+    private void oneStep() {
         int kind = draw.nextInt(100);
         if (kind < 30) {
             play();
@@ -43,10 +59,10 @@ public final class RandomRunsTest {
         } else {
             plans();
         }
-        look();
     }
 
     private void compare(String what, Check.Call got, Check.Call want) {
+        calls++;
         Check.sameOutcome(what, Check.outcome(got), Check.outcome(want));
     }
 
@@ -79,7 +95,7 @@ public final class RandomRunsTest {
     }
 
     private void schedule() {
-        int now = planner.now();
+        int now = (int) reference.now();
         int due = profile == 0 ? value(now, now + 1000) : small(now, now + 1000, profile == 4 ? 300 : 30);
         int slack = profile == 0 ? value(0, 500) : small(0, 500, profile == 4 ? 100 : 20);
         int work = value(1, 50);
@@ -88,7 +104,7 @@ public final class RandomRunsTest {
     }
 
     private void addEvent() {
-        int now = planner.now();
+        int now = (int) reference.now();
         int tick = profile == 0 ? value(now, now + 1000) : small(now, now + 1000, 30);
         int work = value(1, 50);
         compare("addEvent(" + tick + ", " + work + ")",
@@ -149,7 +165,7 @@ public final class RandomRunsTest {
     }
 
     private void plans() {
-        int now = planner.now();
+        int now = (int) reference.now();
         int until = draw.nextInt(8) == 0 ? value(now, now + 400) : small(now, now + 400, 90);
         compare("plannedWakeups(" + until + ")",
                 () -> planner.plannedWakeups(until), () -> reference.plannedWakeups(until));
@@ -161,21 +177,30 @@ public final class RandomRunsTest {
                 () -> planner.leastCost(until), () -> reference.leastCost(until));
     }
 
-    private void look() {
-        compare("now()", planner::now, reference::now);
-        compare("state()", planner::state, reference::state);
-        compare("depth()", planner::depth, reference::depth);
-        compare("timers()", planner::timers, reference::timers);
-        compare("nextWakeup()", planner::nextWakeup, reference::nextWakeup);
-        compare("spent()", planner::spent, reference::spent);
-        compare("sleeps()", planner::sleeps, reference::sleeps);
-        compare("lateness()", planner::lateness, reference::lateness);
-        compare("served()", planner::served, reference::served);
-        compare("available()", planner::available, reference::available);
-        compare("bound()", planner::bound, reference::bound);
-        compare("shortTicks()", planner::shortTicks, reference::shortTicks);
-        int state = value(0, 3);
-        compare("ticksIn(" + state + ")", () -> planner.ticksIn(state), () -> reference.ticksIn(state));
+    private void look(int what) {
+        switch (what) {
+            case 0 -> compare("now()", planner::now, reference::now);
+            case 1 -> compare("state()", planner::state, reference::state);
+            case 2 -> compare("depth()", planner::depth, reference::depth);
+            case 3 -> compare("timers()", planner::timers, reference::timers);
+            case 4 -> compare("nextWakeup()", planner::nextWakeup, reference::nextWakeup);
+            case 5 -> compare("sleeps()", planner::sleeps, reference::sleeps);
+            case 6 -> compare("lateness()", planner::lateness, reference::lateness);
+            case 7 -> compare("served()", planner::served, reference::served);
+            case 8 -> compare("available()", planner::available, reference::available);
+            case 9 -> compare("bound()", planner::bound, reference::bound);
+            case 10 -> compare("shortTicks()", planner::shortTicks, reference::shortTicks);
+            case 11 -> breakEven(value(0, 3));
+            case 12, 13, 14, 15 -> ticksIn(what - 12);
+            default -> compare("spent()", planner::spent, reference::spent);
+        }
+    }
+
+    private void breakEven(int state) {
         compare("breakEven(" + state + ")", () -> planner.breakEven(state), () -> reference.breakEven(state));
+    }
+
+    private void ticksIn(int state) {
+        compare("ticksIn(" + state + ")", () -> planner.ticksIn(state), () -> reference.ticksIn(state));
     }
 }

@@ -455,10 +455,28 @@ public final class TicksTest {
         x.play(6);
         Check.same("served() of ten at 5", x.served(), 55);
         Check.same("lateness() once for all", x.lateness(), 8);
+        Check.same("sleeps() once for all", x.sleeps(), 2);
+        Check.same("spent(), the latency once for all", x.spent(), 605 + 800 + 5500 + 601);
         Check.same("addEvent() beside the two that are left", x.addEvent(6, 1), 3);
         x.play(1);
         Check.same("served() of three at 6", x.served(), 55 + 11 + 12 + 1);
         Check.same("addEvent() beside none", x.addEvent(90, 1), 1);
+        eventsAtTheLastTick();
+    }
+
+    /** At the tick ahead of the known wakeup all but one of the 8 ticks of the latency were paid already. */
+    private static void eventsAtTheLastTick() {
+        SleepPlanner x = new SleepPlanner();
+        x.schedule(20, 0, 1);
+        x.addEvent(19, 2);
+        x.addEvent(19, 3);
+        x.play(19);
+        Check.same("spent() ahead of the last tick", x.spent(), 600 + 12 + 700);
+        x.play(1);
+        // With a tick left no state has a break-even; the latency is paid whole, and once.
+        Check.same("spent() with the last tick", x.spent(), 1312 + 800 + 500 + 100);
+        Check.same("lateness() with the last tick", x.lateness(), 8);
+        Check.same("state() behind it", x.state(), 0);
     }
 
     private static void allThatIsDue() {

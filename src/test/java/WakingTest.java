@@ -189,7 +189,7 @@ public final class WakingTest {
         String before = Probe.look(x);
         Check.same("state()", x.state(), 3);
         Check.same("spent()", x.spent(), 601);
-        for (int i = 0; i < 3; i++) {
+        for (int i = 0; i < 2; i++) {
             Check.sameOutcome("calls that look", Probe.look(x), before);
         }
         SleepPlanner y = planner();
